@@ -449,14 +449,14 @@ public final class QualitativeSimulator {
      * allow them: so what is left at the end is allowed, and nothing is missed.
      */
     private static final class Search {
-        final Model model;
-        final Graph graph;
+        private final Model model;
+        private final Graph graph;
 
         /** A row of sets for each number of bound variables, so that going back needs no undoing. */
-        final int[] possible = new int[(MOST_VARIABLES + 1) * MOST_VARIABLES];
+        private final int[] possible = new int[(MOST_VARIABLES + 1) * MOST_VARIABLES];
 
-        /** The state whose successors are searched; -1 while the first states are. */
-        int source = -1;
+        /** The state that is followed; -1 is the start, which the first states follow. */
+        private int source = -1;
 
         Search(Model model, Graph graph) {
             this.model = model;
@@ -465,38 +465,34 @@ public final class QualitativeSimulator {
 
         void exploreAll() {
             graph.clear();
-            source = -1;
-            for (int v = 0; v < model.variables; v++) {
-                possible[v] = model.codesGiven(v);
-            }
-            findStates();
-            graph.firsts = graph.count;
-            for (int state = 0; state < graph.count && graph.complete; state++) {
+            for (int state = -1; state < graph.count && graph.complete; state++) {
                 source = state;
-                setToChanges(state);
-                findStates();
+                setToFollowing(state);
+                if (narrowUntilStable()) {
+                    bindFrom(0, 0);
+                }
+                if (state < 0) {
+                    graph.firsts = graph.count;
+                }
             }
             linkAll();
         }
 
-        void setToChanges(int state) {
-            int key = graph.keys[state];
+        /** Before any constraint: what can follow a state, or the start (-1). */
+        private void setToFollowing(int state) {
             for (int v = 0; v < model.variables; v++) {
-                int code = model.codeIn(key, v);
-                possible[v] = graph.instants[state]
-                        ? model.codesAfterInstant(v, code)
-                        : model.codesAfterSpan(code);
-            }
-        }
-
-        void findStates() {
-            if (narrowUntilStable()) {
-                bindFrom(0, 0);
+                if (state < 0) {
+                    possible[v] = model.codesGiven(v);
+                } else if (graph.instants[state]) {
+                    possible[v] = model.codesAfterInstant(v, model.codeIn(graph.keys[state], v));
+                } else {
+                    possible[v] = model.codesAfterSpan(model.codeIn(graph.keys[state], v));
+                }
             }
         }
 
         /** Without this, a contradiction among the last variables is met again and again. */
-        boolean narrowUntilStable() {
+        private boolean narrowUntilStable() {
             for (int pass = 0; pass < MOST_VARIABLES * CODES; pass++) {
                 int before = codesLeft();
                 for (int c = 0; c < model.constraints; c++) {
@@ -511,7 +507,7 @@ public final class QualitativeSimulator {
             return true;
         }
 
-        int codesLeft() {
+        private int codesLeft() {
             int left = 0;
             for (int v = 0; v < model.variables; v++) {
                 left += Integer.bitCount(possible[v]);
@@ -519,7 +515,7 @@ public final class QualitativeSimulator {
             return left;
         }
 
-        void bindFrom(int bound, int key) {
+        private void bindFrom(int bound, int key) {
             if (bound >= model.variables) {
                 graph.meet(key, source);
                 return;
@@ -532,7 +528,7 @@ public final class QualitativeSimulator {
             }
         }
 
-        boolean bind(int v, int code) {
+        private boolean bind(int v, int code) {
             int row = v * MOST_VARIABLES;
             int next = row + MOST_VARIABLES;
             for (int other = 0; other < model.variables; other++) {
@@ -548,7 +544,7 @@ public final class QualitativeSimulator {
         }
 
         /** Returns whether each variable of the constraint still has a code. */
-        boolean narrow(int c, int row) {
+        private boolean narrow(int c, int row) {
             int x = model.xs[c];
             int y = model.ys[c];
             switch (model.kinds[c]) {
@@ -575,27 +571,27 @@ public final class QualitativeSimulator {
                     && possible[row + model.zs[c]] != 0;
         }
 
-        void narrowToSame(int x, int y, int row) {
+        private void narrowToSame(int x, int y, int row) {
             int signs = signsOf(x, row) & signsOf(y, row);
             int directions = directionsOf(x, row) & directionsOf(y, row);
             keep(x, row, signs, directions);
             keep(y, row, signs, directions);
         }
 
-        void narrowToMirrored(int x, int y, int row) {
+        private void narrowToMirrored(int x, int y, int row) {
             int signs = signsOf(x, row) & mirrored(signsOf(y, row));
             int directions = directionsOf(x, row) & mirrored(directionsOf(y, row));
             keep(x, row, signs, directions);
             keep(y, row, mirrored(signs), mirrored(directions));
         }
 
-        void narrowToRate(int x, int y, int row) {
+        private void narrowToRate(int x, int y, int row) {
             int both = directionsOf(x, row) & signsOf(y, row);
             keep(x, row, ANY, both);
             keep(y, row, both, ANY);
         }
 
-        void narrowToSum(int x, int y, int z, int row) {
+        private void narrowToSum(int x, int y, int z, int row) {
             int sx = signsOf(x, row);
             int sy = signsOf(y, row);
             int sz = signsOf(z, row);
@@ -607,45 +603,45 @@ public final class QualitativeSimulator {
             keep(y, row, sums(sz, mirrored(sx)), sums(dz, mirrored(dx)));
         }
 
-        void narrowToMatch(int x, int y, int row) {
+        private void narrowToMatch(int x, int y, int row) {
             int places = placesAmong(possible[row + x]) & placesAmong(possible[row + y]);
             possible[row + x] &= places;
             possible[row + y] &= places;
         }
 
-        void keep(int v, int row, int signs, int directions) {
+        private void keep(int v, int row, int signs, int directions) {
             possible[row + v] &= model.codesWithSigns(signs, v) & EACH_VALUE * directions;
         }
 
-        int signsOf(int v, int row) {
+        private int signsOf(int v, int row) {
             return model.signsAmong(possible[row + v], v);
         }
 
-        int directionsOf(int v, int row) {
+        private int directionsOf(int v, int row) {
             int codes = possible[row + v];
             return ((codes & EACH_VALUE * NEGATIVE) != 0 ? NEGATIVE : 0)
                     | ((codes & EACH_VALUE * NOUGHT) != 0 ? NOUGHT : 0)
                     | ((codes & EACH_VALUE * POSITIVE) != 0 ? POSITIVE : 0);
         }
 
-        static int placesAmong(int codes) {
+        private static int placesAmong(int codes) {
             return ((codes & AT_LANDMARKS) != 0 ? AT_LANDMARKS : 0)
                     | ((codes & BETWEEN_LANDMARKS) != 0 ? BETWEEN_LANDMARKS : 0);
         }
 
-        static int mirrored(int digit) {
+        private static int mirrored(int digit) {
             return digit >> 2 & NEGATIVE | digit & NOUGHT | digit << 2 & POSITIVE;
         }
 
         /** A side that one number has can always win, and 0 needs two that can cancel out. */
-        static int sums(int a, int b) {
+        private static int sums(int a, int b) {
             int sides = (a | b) & (NEGATIVE | POSITIVE);
             return (a & mirrored(b)) != 0 ? sides | NOUGHT : sides;
         }
 
-        void linkAll() {
+        private void linkAll() {
             for (int state = 0; state < graph.count; state++) {
-                setToChanges(state);
+                setToFollowing(state);
                 graph.beginLinks(state);
                 for (int other = 0; other < graph.count; other++) {
                     if (canFollow(state, other)) {
@@ -657,7 +653,7 @@ public final class QualitativeSimulator {
         }
 
         /** Every numbered state is allowed, so the changes of the variables alone decide. */
-        boolean canFollow(int state, int other) {
+        private boolean canFollow(int state, int other) {
             if (graph.instants[state] == graph.instants[other]) {
                 return false;
             }
@@ -677,11 +673,11 @@ public final class QualitativeSimulator {
     /** The numbered states and the links from each to its successors. */
     private static final class Graph {
         /** A power of two, and twice the states at least, so that searches in it stay short. */
-        static final int SLOTS = 512;
+        private static final int SLOTS = 512;
 
-        static final int SLOT_SHIFT = 23;
-        static final int SCATTER = 0x9E3779B1;
-        static final int LINKS_AT_FIRST = 1024;
+        private static final int SLOT_SHIFT = 23;
+        private static final int SCATTER = 0x9E3779B1;
+        private static final int LINKS_AT_FIRST = 1024;
 
         int count = 0;
         int firsts = 0;
@@ -691,17 +687,17 @@ public final class QualitativeSimulator {
         final int[] distances = new int[MOST_STATES];
 
         /** A scattered index of the states: 1 more than the number, 0 in a free slot. */
-        final int[] slots = new int[SLOTS];
+        private final int[] slots = new int[SLOTS];
 
         /** The links of a state stand from its start to the start of the next one. */
         final int[] starts = new int[MOST_STATES + 1];
 
         int[] links = new int[LINKS_AT_FIRST];
-        int linksInAll = 0;
+        private int linksInAll = 0;
 
-        final long[] waysNow = new long[MOST_STATES];
-        final long[] waysBefore = new long[MOST_STATES];
-        final boolean[] runsOut = new boolean[MOST_STATES];
+        private final long[] waysNow = new long[MOST_STATES];
+        private final long[] waysBefore = new long[MOST_STATES];
+        private final boolean[] runsOut = new boolean[MOST_STATES];
 
         void clear() {
             count = 0;
@@ -731,7 +727,7 @@ public final class QualitativeSimulator {
             }
         }
 
-        void append(int key, boolean instant, int source, int slot) {
+        private void append(int key, boolean instant, int source, int slot) {
             if (count >= MOST_STATES) {
                 complete = false;
                 return;
@@ -766,7 +762,9 @@ public final class QualitativeSimulator {
 
         /** Clears away, again and again, the states from which every way runs out. */
         boolean goesRound() {
-            Arrays.fill(runsOut, false);
+            for (int state = 0; state < count; state++) {
+                runsOut[state] = false;
+            }
             int left = count;
             for (int pass = 0; pass < count && left > 0; pass++) {
                 int before = left;
@@ -783,7 +781,7 @@ public final class QualitativeSimulator {
             return false;
         }
 
-        boolean everyLinkRunsOut(int state) {
+        private boolean everyLinkRunsOut(int state) {
             for (int at = starts[state]; at < starts[state + 1]; at++) {
                 if (!runsOut[links[at]]) {
                     return false;

@@ -12,6 +12,7 @@ final class Reference {
     private final List<int[]> variables = new ArrayList<>();
     private final List<int[]> given = new ArrayList<>();
     private final List<int[]> constraints = new ArrayList<>();
+    private final int mostStates;
     private Map<String, State> found = null;
     private List<State> states = null;
     private boolean complete;
@@ -34,6 +35,15 @@ final class Reference {
         String name() {
             return instant + Arrays.toString(values) + Arrays.toString(directions);
         }
+    }
+
+    Reference() {
+        this(250);
+    }
+
+    /** With another limit it tells how many states a model has that goes beyond 250. */
+    Reference(int mostStates) {
+        this.mostStates = mostStates;
     }
 
     int addVariable(int landmarks, int zero) {
@@ -323,7 +333,7 @@ final class Reference {
         found = new LinkedHashMap<>();
         complete = true;
         boolean going = true;
-        for (State s : allowedAmong(startChoices(), true, 251)) {
+        for (State s : allowedAmong(startChoices(), true, mostStates + 1)) {
             going = going && number(s, 0);
         }
         firsts = states.size();
@@ -357,7 +367,7 @@ final class Reference {
     }
 
     private boolean number(State s, int distance) {
-        if (states.size() == 250) {
+        if (states.size() == mostStates) {
             return false;
         }
         s.number = states.size();

@@ -126,7 +126,8 @@ public final class QualitativeSimulator {
     public int sign(int variable, int value) {
         requireVariable(variable);
         requireValue(variable, value);
-        return Integer.compare(value, 2 * model.zeros[variable]);
+        int zero = 2 * model.zeros[variable];
+        return value < zero ? -1 : value > zero ? 1 : 0;
     }
 
     public int explore() {
@@ -452,7 +453,7 @@ public final class QualitativeSimulator {
         private final Model model;
         private final Graph graph;
 
-        /** A row of sets for each number of bound variables, so that going back needs no undoing. */
+        /** A row of sets for each number of bound variables, so that nothing has to be undone. */
         private final int[] possible = new int[(MOST_VARIABLES + 1) * MOST_VARIABLES];
 
         /** The state that is followed; -1 is the start, which the first states follow. */

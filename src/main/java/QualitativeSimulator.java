@@ -56,7 +56,8 @@ public final class QualitativeSimulator {
         explored = false;
     }
 
-    public int addVariable(int landmarks, int zero) {
+    public int addVariable(int landmarks, int zero)
+            throws IllegalArgumentException, IllegalStateException {
         if (landmarks < FEWEST_LANDMARKS || landmarks > MOST_LANDMARKS) {
             throw new IllegalArgumentException("a variable has 2 to 4 landmarks");
         }
@@ -70,7 +71,8 @@ public final class QualitativeSimulator {
         return model.appendVariable(landmarks, zero);
     }
 
-    public int addConstraint(int kind, int x, int y, int z) {
+    public int addConstraint(int kind, int x, int y, int z)
+            throws IllegalArgumentException, IndexOutOfBoundsException, IllegalStateException {
         if (kind < EQUAL || kind > MATCH) {
             throw new IllegalArgumentException("kinds go from 0 to 5");
         }
@@ -87,7 +89,7 @@ public final class QualitativeSimulator {
         return model.appendConstraint(kind, x, second, third);
     }
 
-    public int dropConstraint() {
+    public int dropConstraint() throws IllegalStateException {
         if (model.constraints <= 0) {
             throw new IllegalStateException("there is no constraint");
         }
@@ -96,7 +98,8 @@ public final class QualitativeSimulator {
         return model.constraints;
     }
 
-    public boolean give(int variable, int value, int direction) {
+    public boolean give(int variable, int value, int direction)
+            throws IndexOutOfBoundsException, IllegalArgumentException {
         requireVariable(variable);
         if (value != OPEN_VALUE) {
             requireValue(variable, value);
@@ -123,7 +126,8 @@ public final class QualitativeSimulator {
         return model.variables;
     }
 
-    public int sign(int variable, int value) {
+    public int sign(int variable, int value)
+            throws IndexOutOfBoundsException, IllegalArgumentException {
         requireVariable(variable);
         requireValue(variable, value);
         int zero = 2 * model.zeros[variable];
@@ -142,43 +146,46 @@ public final class QualitativeSimulator {
         return explored;
     }
 
-    public boolean isComplete() {
+    public boolean isComplete() throws IllegalStateException {
         requireExploration();
         return graph.complete;
     }
 
-    public int firstCount() {
+    public int firstCount() throws IllegalStateException {
         requireExploration();
         return graph.firsts;
     }
 
-    public int value(int state, int variable) {
+    public int value(int state, int variable)
+            throws IllegalStateException, IndexOutOfBoundsException {
         requireExploration();
         requireState(state);
         requireVariable(variable);
         return valueOf(model.codeIn(graph.keys[state], variable));
     }
 
-    public int direction(int state, int variable) {
+    public int direction(int state, int variable)
+            throws IllegalStateException, IndexOutOfBoundsException {
         requireExploration();
         requireState(state);
         requireVariable(variable);
         return directionOf(model.codeIn(graph.keys[state], variable));
     }
 
-    public boolean isInstant(int state) {
+    public boolean isInstant(int state) throws IllegalStateException, IndexOutOfBoundsException {
         requireExploration();
         requireState(state);
         return graph.instants[state];
     }
 
-    public int successorCount(int state) {
+    public int successorCount(int state) throws IllegalStateException, IndexOutOfBoundsException {
         requireExploration();
         requireState(state);
         return graph.linkCount(state);
     }
 
-    public int successor(int state, int index) {
+    public int successor(int state, int index)
+            throws IllegalStateException, IndexOutOfBoundsException {
         requireExploration();
         requireState(state);
         if (index < 0 || index >= graph.linkCount(state)) {
@@ -187,19 +194,19 @@ public final class QualitativeSimulator {
         return graph.links[graph.starts[state] + index];
     }
 
-    public int distance(int state) {
+    public int distance(int state) throws IllegalStateException, IndexOutOfBoundsException {
         requireExploration();
         requireState(state);
         return graph.distances[state];
     }
 
-    public boolean isAtRest(int state) {
+    public boolean isAtRest(int state) throws IllegalStateException, IndexOutOfBoundsException {
         requireExploration();
         requireState(state);
         return model.isSteady(graph.keys[state]);
     }
 
-    public int endCount() {
+    public int endCount() throws IllegalStateException {
         requireExploration();
         int ends = 0;
         for (int state = 0; state < graph.count; state++) {
@@ -210,7 +217,8 @@ public final class QualitativeSimulator {
         return ends;
     }
 
-    public int soonest(int variable, int value) {
+    public int soonest(int variable, int value)
+            throws IllegalStateException, IndexOutOfBoundsException, IllegalArgumentException {
         requireExploration();
         requireVariable(variable);
         requireValue(variable, value);
@@ -223,12 +231,12 @@ public final class QualitativeSimulator {
         return -1;
     }
 
-    public boolean hasCycle() {
+    public boolean hasCycle() throws IllegalStateException {
         requireExploration();
         return graph.goesRound();
     }
 
-    public long ways(int steps) {
+    public long ways(int steps) throws IllegalStateException, IllegalArgumentException {
         requireExploration();
         if (steps < 0 || steps > MOST_STEPS) {
             throw new IllegalArgumentException("steps go from 0 to 100");
@@ -236,7 +244,7 @@ public final class QualitativeSimulator {
         return graph.countWays(steps);
     }
 
-    public double rest() {
+    public double rest() throws IllegalStateException {
         requireExploration();
         if (graph.count <= 0) {
             return 0.0;

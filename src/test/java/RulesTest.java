@@ -1,5 +1,6 @@
 import java.io.IOException;
 import java.lang.reflect.Constructor;
+import java.lang.reflect.Executable;
 import java.lang.reflect.Field;
 import java.lang.reflect.Method;
 import java.lang.reflect.Modifier;
@@ -20,6 +21,7 @@ public final class RulesTest {
 
     public static void main(String[] args) throws IOException {
         faceIsThatOfTheDocument();
+        sourceDeclaresTheFace();
         membersAreHidden();
         classesInside();
         wordsOfTheSource();
@@ -27,28 +29,63 @@ public final class RulesTest {
     }
 
     private static void faceIsThatOfTheDocument() throws IOException {
+        List<String> lines = linesOfTheFace();
+        Check.same("lines of the face in the document", lines.size(), 25);
+        Set<String> due = new TreeSet<>();
+        for (String line : lines) {
+            String types = line.replaceAll("(\\w+) \\w+(?=[^()]*\\))", "$1");
+            Check.same(line + " stands once", due.add(types), true);
+        }
+        Set<String> got = new TreeSet<>();
+        for (Constructor<?> c : QualitativeSimulator.class.getDeclaredConstructors()) {
+            got.add(declared(c, c.getDeclaringClass().getSimpleName()));
+        }
+        for (Method m : QualitativeSimulator.class.getDeclaredMethods()) {
+            if (Modifier.isPublic(m.getModifiers())) {
+                got.add(declared(m, m.getReturnType().getSimpleName() + " " + m.getName()));
+            }
+        }
+        for (String one : due) {
+            Check.same("the class declares " + one, got.contains(one), true);
+        }
+        for (String one : got) {
+            Check.same("the document declares " + one, due.contains(one), true);
+        }
+    }
+
+    /** The class file forgets the names of parameters, so the source is read for them. */
+    private static void sourceDeclaresTheFace() throws IOException {
+        String source = Files.readString(SOURCE).replaceAll("\\s+", " ");
+        for (String line : linesOfTheFace()) {
+            Check.same("the source has " + line, source.contains(" " + line + " {"), true);
+        }
+    }
+
+    private static List<String> linesOfTheFace() throws IOException {
         String document = Files.readString(DOCUMENT);
         String face = document.substring(document.indexOf("```java"));
         face = face.substring(0, face.indexOf("\n}"));
-        Set<String> due = new TreeSet<>();
-        Matcher line = Pattern.compile("public (\\w+) (\\w+)\\(([^)]*)\\)").matcher(face);
+        List<String> lines = new ArrayList<>();
+        Matcher line = Pattern.compile("(?m)^ +(public [^;]*);").matcher(face);
         while (line.find()) {
-            String types = line.group(3).replaceAll("(\\w+) \\w+", "$1");
-            due.add(line.group(1) + " " + line.group(2) + "(" + types + ")");
+            lines.add(line.group(1));
         }
-        Set<String> got = new TreeSet<>();
-        for (Method m : QualitativeSimulator.class.getDeclaredMethods()) {
-            if (Modifier.isPublic(m.getModifiers())) {
-                List<String> types = new ArrayList<>();
-                for (Class<?> type : m.getParameterTypes()) {
-                    types.add(type.getSimpleName());
-                }
-                got.add(m.getReturnType().getSimpleName() + " " + m.getName() + "("
-                        + String.join(", ", types) + ")");
-            }
+        return lines;
+    }
+
+    private static String declared(Executable e, String typeAndName) {
+        String modifiers = Modifier.toString(e.getModifiers());
+        String thrown = names(e.getExceptionTypes());
+        return modifiers + " " + typeAndName + "(" + names(e.getParameterTypes()) + ")"
+                + (thrown.isEmpty() ? "" : " throws " + thrown);
+    }
+
+    private static String names(Class<?>[] types) {
+        List<String> names = new ArrayList<>();
+        for (Class<?> type : types) {
+            names.add(type.getSimpleName());
         }
-        Check.same("the number of methods in the document", due.size(), 24);
-        Check.same("the face", got.toString(), due.toString());
+        return String.join(", ", names);
     }
 
     private static void membersAreHidden() {
@@ -120,8 +157,8 @@ public final class RulesTest {
         for (int i = 0; i < source.length(); i++) {
             Check.same("sign " + i + " is of 1 to 127", source.charAt(i) < 128, true);
         }
-        Matcher bodies = Pattern.compile("(?m)^( {4}| {8})\\S[^;\n]*\\) \\{\n(?s:.*?)\n\\1\\}")
-                .matcher(code);
+        Matcher bodies = Pattern.compile(
+                "(?m)^( {4}| {8})\\S[^;{}]*\\)[^;{}()]* \\{\n(?s:.*?)\n\\1\\}").matcher(code);
         int methods = 0;
         while (bodies.find()) {
             methods++;

@@ -1,8 +1,16 @@
 /** Counts the answers that are not as due, and ends a test with exit code 1 if there was one. */
 final class Check {
     private static int wrong = 0;
+    private static String sentence = "";
 
     private Check() {
+    }
+
+    /** Tells which words of the document the next checks are for; they must stand there. */
+    static void about(String words) {
+        sentence = "";
+        same("the document says \"" + words + "\"", Document.says(words), true);
+        sentence = "\"" + words + "\": ";
     }
 
     static void same(String what, long got, long due) {
@@ -43,7 +51,7 @@ final class Check {
     private static void report(String what, String got, String due) {
         wrong++;
         if (wrong <= 50) {
-            System.out.println(what + " answered " + got + ", due is " + due);
+            System.out.println(sentence + what + " answered " + got + ", due is " + due);
         }
     }
 

@@ -18,6 +18,7 @@ public final class EdgesTest {
         sameInstant();
         allVariablesChange();
         missingSigns();
+        sums();
         sameVariable();
         matchAtTheEnds();
         distances();
@@ -233,6 +234,43 @@ public final class EdgesTest {
         Check.same("SUM, ends", firsts("addVariable(2, 1)", "addVariable(2, 1)",
                 "addVariable(2, 0)", "addConstraint(SUM, 0, 1, 2)", "give(0, -1, 0)",
                 "give(1, -1, 0)"), 1);
+    }
+
+    /** Each pair of directions, and of signs at the values 0, 2 and 4, with the zero at 2. */
+    private static void sums() {
+        Check.about("(for 1 and 1, and 1 and 0, 1 alone is possible; for -1 and -1, and -1 and 0,"
+                + " -1 alone; for 0 and 0, 0 alone; for 1 and -1, all are possible; and the same"
+                + " in the other order)");
+        int[][] pairs = {{1, 1}, {1, 0}, {0, 1}, {-1, -1}, {-1, 0}, {0, -1}, {0, 0}, {1, -1},
+            {-1, 1}};
+        String[] possible = {"1", "1", "1", "-1", "-1", "-1", "0", "-1 0 1", "-1 0 1"};
+        for (int p = 0; p < pairs.length; p++) {
+            String one = "addVariable(3, 1)";
+            int x = pairs[p][0];
+            int y = pairs[p][1];
+            Run directions = Run.of(one, one, one, "addConstraint(SUM, 0, 1, 2)",
+                    "give(0, 2, " + x + ")", "give(1, 2, " + y + ")", "give(2, 2, 2)");
+            Run signs = Run.of(one, one, one, "addConstraint(SUM, 0, 1, 2)",
+                    "give(0, " + (2 + 2 * x) + ", 0)", "give(1, " + (2 + 2 * y) + ", 0)",
+                    "give(2, -1, 0)");
+            Set<String> sums = new TreeSet<>(List.of(possible[p].split(" ")));
+            Check.same("directions for " + x + " and " + y, sumsOf(directions, true).toString(),
+                    sums.toString());
+            Check.same("signs for " + x + " and " + y, sumsOf(signs, false).toString(),
+                    sums.toString());
+        }
+    }
+
+    /** The directions, or the signs, that variable 2 has in the first states. */
+    private static Set<String> sumsOf(Run run, boolean ofDirections) {
+        Set<String> sums = new TreeSet<>();
+        run.and("explore()");
+        int firsts = run.count("firstCount");
+        for (int i = 0; i < firsts; i++) {
+            sums.add(ofDirections ? run.ask("direction", i, 2)
+                    : run.ask("sign", 2, run.count("value", i, 2)));
+        }
+        return sums;
     }
 
     private static void sameVariable() {

@@ -54,6 +54,9 @@ public final class EmptyTest {
         Run run = Run.of("addVariable(2, 0)", "addVariable(2, 1)");
         run.due("give(0, -1, 2)", false).due("give(1, -1, 2)", false).and("explore()");
         run.due("firstCount()", 81);
+        Check.about("the given value (-1 if it is open) and the given direction (2 if it is open)");
+        Run.of("addVariable(3, 1)").due("digest()",
+                (((((131L * 31 + 1) * 31 + 3) * 31 + 1) * 31 - 1) * 31 + 2) * 31);
         Check.about("Adds a variable, whose value and direction are open.");
         Run added = Run.of("addVariable(2, 0)", "give(0, 1, 1)", "addVariable(3, 0)");
         added.due("give(1, -1, 2)", false).and("explore()").due("firstCount()", 15);
@@ -96,7 +99,9 @@ public final class EmptyTest {
         Check.about("divided by the number of states; 0 if there are none");
         String[] plan = {"addVariable(3, 1)", "addConstraint(CONSTANT, 0, 0, 0)",
             "give(0, -1, 1)"};
-        Run run = Run.of(plan).due("explore()", 0).due("isExplored()", true).due("explore()", 0);
+        Run run = Run.of(plan);
+        long unexplored = Long.parseLong(run.answer("digest()"));
+        run.due("explore()", 0).due("isExplored()", true).due("explore()", 0);
         run.due("rest()", 0.0).due("isComplete()", true).due("firstCount()", 0);
         run.due("endCount()", 0).due("hasCycle()", false);
         run.due("ways(0)", 0).due("ways(1)", 0).due("ways(100)", 0);
@@ -109,6 +114,8 @@ public final class EmptyTest {
         }
         Run twin = Run.ofReference(250, plan).and("explore()");
         Check.same("everything", run.everything(), twin.everything());
+        Check.about("if there is an exploration, the number of its states");
+        run.due("digest()", unexplored * 31);
     }
 
     /** No first state: by the zeros of the variables, by what is given, after one with states. */

@@ -51,6 +51,7 @@ public final class RefusalsTest {
         soonest();
         ways();
         everyRefusalOfTheDocumentWasTried();
+        manyInARow();
         theOneThatIsNamedFirst();
         Check.end();
     }
@@ -327,6 +328,40 @@ public final class RefusalsTest {
         refusal("23 IllegalArgumentException if steps is not 0 to 100");
         for (String[] plan : PLANS) {
             refusesExplored(plan, "ways(-1)", "ways(101)", "ways(LEAST)", "ways(GREATEST)");
+        }
+    }
+
+    /** One object under refused calls of every kind, then once more with an exploration. */
+    private static void manyInARow() {
+        Check.about("A method that throws an exception changes nothing.");
+        String[] plan = {"addVariable(2, 0)", "addVariable(3, 1)", "addVariable(2, 1)",
+            "addVariable(2, 0)", "addConstraint(RATE, 0, 1, 0)", "addConstraint(SUM, 0, 2, 3)",
+            "addConstraint(MATCH, 0, 3, 0)", "addConstraint(EQUAL, 2, 2, 0)",
+            "addConstraint(CONSTANT, 2, 0, 0)", "addConstraint(EQUAL, 1, 1, 0)",
+            "addConstraint(MATCH, 3, 0, 0)", "addConstraint(RATE, 0, 1, 0)", "give(0, -1, 1)",
+            "give(3, 1, 2)"};
+        String[] refused = {"addVariable(1, 0)", "addVariable(2, 2)", "addVariable(2, 0)",
+            "addConstraint(6, 0, 0, 0)", "addConstraint(SUM, 0, 1, 4)",
+            "addConstraint(CONSTANT, 1, 0, 0)", "give(4, 0, 0)", "give(0, 3, 0)", "give(0, 0, 3)",
+            "give(1, 5, -1)", "sign(4, 0)", "sign(0, 3)"};
+        String[] ofExploration = {"value(250, 0)", "value(0, 4)", "direction(-1, 0)",
+            "direction(0, -1)", "isInstant(250)", "successorCount(-1)", "successor(0, 99)",
+            "successor(-1, 0)", "distance(250)", "isAtRest(-1)", "soonest(4, 0)", "soonest(0, 3)",
+            "ways(-1)", "ways(101)"};
+        Run run = Run.of(plan);
+        throwAll(run, refused);
+        throwAll(run, ofExploration);
+        throwAll(run, "isComplete()", "firstCount()", "endCount()", "hasCycle()", "rest()");
+        same("after all refusals", run, Run.of(plan));
+        run.and("explore()");
+        throwAll(run, refused);
+        throwAll(run, ofExploration);
+        sameFromHereOn("explored, after all refusals", run, Run.of(plan).and("explore()"));
+    }
+
+    private static void throwAll(Run run, String... calls) {
+        for (String call : calls) {
+            Check.same(call + " throws", run.answer(call).startsWith("throws."), true);
         }
     }
 

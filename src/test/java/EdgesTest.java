@@ -3,8 +3,8 @@ import java.util.Set;
 import java.util.TreeSet;
 
 /**
- * The edges of a variable: what it can change to at every landmark, the lowest and the highest among
- * them, and between them; and what constraints allow where a sign or a direction is missing.
+ * The edges of a variable: what it can change to at every landmark, the lowest and the highest
+ * among them, and between them; and what constraints allow where a sign or a direction is missing.
  */
 public final class EdgesTest {
     public static void main(String[] args) {
@@ -19,6 +19,7 @@ public final class EdgesTest {
         allVariablesChange();
         missingSigns();
         sums();
+        sumsInEachOrder();
         sameVariable();
         matchAtTheEnds();
         distances();
@@ -258,6 +259,24 @@ public final class EdgesTest {
                     sums.toString());
             Check.same("signs for " + x + " and " + y, sumsOf(signs, false).toString(),
                     sums.toString());
+        }
+    }
+
+    /**
+     * Whichever variables are x, y and z, all open. By the pairs above in their order, with 2
+     * values below and above the zero: 8 + 4 + 4, twice, 1, and 2 * 2 * 5 twice; of the directions
+     * each pair has 1 sum, but for the last two, which have 3.
+     */
+    private static void sumsInEachOrder() {
+        String one = "addVariable(3, 1)";
+        for (int order = 0; order < 6; order++) {
+            int x = order / 2;
+            int y = (x + 1 + order % 2) % 3;
+            String sum = "addConstraint(SUM, " + x + ", " + y + ", " + (3 - x - y) + ")";
+            Check.same("values of " + sum, firsts(one, one, one, sum, "give(0, -1, 0)",
+                    "give(1, -1, 0)", "give(2, -1, 0)"), 2 * (8 + 4 + 4) + 1 + 2 * 20);
+            Check.same("directions of " + sum, firsts(one, one, one, sum, "give(0, 2, 2)",
+                    "give(1, 2, 2)", "give(2, 2, 2)"), 7 + 2 * 3);
         }
     }
 

@@ -57,6 +57,11 @@ public final class FullTest {
     private static final String[] FROM_ONE = {"addVariable(2, 0)", "addVariable(3, 1)",
         "addVariable(3, 1)", "give(0, 1, 0)", "give(1, 2, 0)", "give(2, 3, 0)"};
 
+    /** Four variables that leave their landmarks together: some 1,700 links. */
+    private static final String[] MANY_LINKS = {"addVariable(3, 2)", "addVariable(2, 1)",
+        "addVariable(3, 2)", "addVariable(2, 1)", "addConstraint(MATCH, 2, 3, 0)",
+        "addConstraint(MATCH, 1, 2, 0)", "addConstraint(MATCH, 1, 0, 0)", "give(0, 1, 0)"};
+
     /** 21 times 21 first states, and 21 to the fourth. */
     private static final String[] FIRST_441 = {"addVariable(4, 0)", "addVariable(4, 3)"};
 
@@ -203,7 +208,7 @@ public final class FullTest {
         return String.join(" ", numbered);
     }
 
-    /** The exploration ended in the turn of the first state that has a successor without a number. */
+    /** The exploration ended in the turn of the first state that has one without a number. */
     private static void turnsThatHadNotCome() {
         for (String[] plan : List.of(ALL_251_NEAR, FROM_ONE)) {
             Run run = Run.of(plan).and("explore()");
@@ -223,7 +228,8 @@ public final class FullTest {
     /** Every answer of what was cut off is that of the numbered states and their links alone. */
     private static void questionsOfWhatWasCutOff() {
         for (String[] plan : List.of(FIRST_250, FIRST_250_AND_MORE, FIRST_251, ALL_250,
-                ALL_250_FAR, ALL_251_NEAR, ALL_251_FAR, ALL_251, FROM_ONE, FIRST_441)) {
+                ALL_250_FAR, ALL_251_NEAR, ALL_251_FAR, ALL_251, FROM_ONE, MANY_LINKS,
+                FIRST_441)) {
             Run run = Run.of(plan).and("explore()");
             Run reference = Run.ofReference(250, plan).and("explore()");
             Check.same("everything", run.everything(), reference.everything());

@@ -51,7 +51,8 @@ public final class OrderTest {
         Run run = Run.of("addVariable(3, 1)", "give(0, 2, 0)").due("explore()", 18);
         // i(2,0) leads to spans 1 to 3; s(1,-1) to instants 4 to 6, s(2,0) to none, s(3,1) to
         // instants 7 to 9; i(0,-1) to none, i(0,0) to spans 10 and 11, i(1,0) to spans 1, 11 and
-        // 12; i(3,0) to 3, 13 and 14; i(4,0) to 13 and 15; s(1,1) to 0, 6 and 16, s(3,-1) to 0, 7, 17.
+        // 12; i(3,0) to 3, 13 and 14; i(4,0) to 13 and 15; s(1,1) to 0, 6 and 16, s(3,-1) to 0, 7
+        // and 17.
         states(run, 0, "i(2,0)", "s(1,-1)", "s(2,0)", "s(3,1)", "i(0,-1)", "i(0,0)", "i(1,0)",
                 "i(3,0)", "i(4,0)", "i(4,1)", "s(0,0)", "s(1,1)", "s(1,0)", "s(3,-1)", "s(3,0)",
                 "s(4,0)", "i(2,1)", "i(2,-1)");

@@ -3,9 +3,9 @@ import java.util.List;
 import java.util.Set;
 
 /**
- * Each exception of each method: the first numbers that are refused on each side, the least and the
- * greatest int, and that nothing is changed after it, by a twin that was spared the call. Then, where
- * several exceptions apply, that the one is thrown that is named first.
+ * Each exception of each method: the first numbers that are refused on each side, the least and
+ * the greatest int, and that nothing is changed after it, by a twin that was spared the call. Then,
+ * where several exceptions apply, that the one is thrown that is named first.
  */
 public final class RefusalsTest {
     private static final String[] NO_VARIABLES = {};

@@ -26,6 +26,18 @@ final class Document {
         return TEXT.replaceAll("\\s+", " ").contains(words);
     }
 
+    /** The declarations of the public face, the constructor first, each without its semicolon. */
+    static List<String> face() {
+        String face = TEXT.substring(TEXT.indexOf("```java"));
+        face = face.substring(0, face.indexOf("\n}"));
+        List<String> lines = new ArrayList<>();
+        Matcher line = Pattern.compile("(?m)^ +(public [^;]*);").matcher(face);
+        while (line.find()) {
+            lines.add(line.group(1));
+        }
+        return lines;
+    }
+
     /** Each refusal as "2 IllegalStateException if there are 4 variables", 2 the promise. */
     static List<String> refusals() {
         List<String> refusals = new ArrayList<>();

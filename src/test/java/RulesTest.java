@@ -17,7 +17,6 @@ import java.util.regex.Pattern;
 /** The rules of LANGUAGE.md, as far as the class file and the words of the source show them. */
 public final class RulesTest {
     private static final Path SOURCE = Path.of("src/main/java/QualitativeSimulator.java");
-    private static final Path DOCUMENT = Path.of("../shared/DOC.md");
 
     public static void main(String[] args) throws IOException {
         faceIsThatOfTheDocument();
@@ -28,8 +27,8 @@ public final class RulesTest {
         Check.end();
     }
 
-    private static void faceIsThatOfTheDocument() throws IOException {
-        List<String> lines = linesOfTheFace();
+    private static void faceIsThatOfTheDocument() {
+        List<String> lines = Document.face();
         Check.same("lines of the face in the document", lines.size(), 25);
         Set<String> due = new TreeSet<>();
         for (String line : lines) {
@@ -56,21 +55,9 @@ public final class RulesTest {
     /** The class file forgets the names of parameters, so the source is read for them. */
     private static void sourceDeclaresTheFace() throws IOException {
         String source = Files.readString(SOURCE).replaceAll("\\s+", " ");
-        for (String line : linesOfTheFace()) {
+        for (String line : Document.face()) {
             Check.same("the source has " + line, source.contains(" " + line + " {"), true);
         }
-    }
-
-    private static List<String> linesOfTheFace() throws IOException {
-        String document = Files.readString(DOCUMENT);
-        String face = document.substring(document.indexOf("```java"));
-        face = face.substring(0, face.indexOf("\n}"));
-        List<String> lines = new ArrayList<>();
-        Matcher line = Pattern.compile("(?m)^ +(public [^;]*);").matcher(face);
-        while (line.find()) {
-            lines.add(line.group(1));
-        }
-        return lines;
     }
 
     private static String declared(Executable e, String typeAndName) {

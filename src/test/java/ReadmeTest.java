@@ -114,11 +114,15 @@ public final class ReadmeTest {
         while (row.find()) {
             told.add(row.group(1) + " throws " + row.group(2).trim());
         }
-        List<String> due = new ArrayList<>();
-        for (String line : Document.face()) {
-            due.add(shortened(line));
+        List<String> face = Document.face();
+        Check.same("calls in README.md", told.size(), face.size());
+        for (int i = 0; i < told.size() && i < face.size(); i++) {
+            Check.same("README.md's call " + i, told.get(i), shortened(face.get(i)));
         }
-        Check.same("calls in README.md", String.join("\n", told), String.join("\n", due));
+        for (String one : List.of("Argument is `IllegalArgumentException`",
+                "Index is `IndexOutOfBoundsException`", "State is `IllegalStateException`")) {
+            Check.same("README.md says " + one, readme.contains("\n- " + one), true);
+        }
     }
 
     private static String shortened(String declaration) {
